@@ -404,7 +404,7 @@ public final class WordAnchors {
         }
 
         boolean holds(int place) {
-            return place >= 0 && place < size;
+            return place >= 0 && place < size && place < words.length;
         }
 
         boolean takesAt(int place) {
@@ -417,14 +417,14 @@ public final class WordAnchors {
         }
 
         int at(int place) {
-            return place >= 0 && place < size ? words[place] : NONE;
+            return place >= 0 && place < size && place < words.length ? words[place] : NONE;
         }
 
         void insert(int place, int word) {
             if (!takesAt(place) || isFull()) {
                 return;
             }
-            for (int p = 0; p < size; p++) {
+            for (int p = 0; p < targets.length; p++) {
                 targets[p] = p < place ? p : p + 1;
             }
             relocate(size + 1);
@@ -435,7 +435,7 @@ public final class WordAnchors {
             if (!holds(place)) {
                 return;
             }
-            for (int p = 0; p < size; p++) {
+            for (int p = 0; p < targets.length; p++) {
                 targets[p] = p < place ? p : p - 1;
             }
             targets[place] = NONE;
@@ -446,7 +446,7 @@ public final class WordAnchors {
             if (!holds(place)) {
                 return;
             }
-            for (int p = 0; p < size; p++) {
+            for (int p = 0; p < targets.length; p++) {
                 targets[p] = p;
             }
             targets[place] = NONE;
@@ -457,7 +457,7 @@ public final class WordAnchors {
             if (!canShift(from, many, to)) {
                 return;
             }
-            for (int p = 0; p < size; p++) {
+            for (int p = 0; p < targets.length; p++) {
                 targets[p] = placeAfterShift(p, from, many, to);
             }
             relocate(size);
@@ -472,8 +472,8 @@ public final class WordAnchors {
         }
 
         private void relocate(int newSize) {
-            for (int p = 0; p < size; p++) {
-                int target = targets[p];
+            for (int p = 0; p < size && p < words.length; p++) {
+                int target = targetOf(p);
                 if (target >= 0 && target < relocated.length) {
                     relocated[target] = words[p];
                 }
@@ -875,11 +875,11 @@ public final class WordAnchors {
         private int size;
 
         int membersOf(int block) {
-            return block >= 0 && block < size ? members[block] : 0;
+            return block >= 0 && block < size && block < members.length ? members[block] : 0;
         }
 
         int shiftOf(int block) {
-            return block >= 0 && block < size ? shifts[block] : 0;
+            return block >= 0 && block < size && block < shifts.length ? shifts[block] : 0;
         }
 
         void gather(State state) {

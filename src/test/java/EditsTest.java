@@ -96,6 +96,12 @@ public final class EditsTest {
         c.due("change(1, 2)", x.change(1, 2), 99);
         c.due("a true place does not come back", x.anchors(4), 6);
         c.due("edits", x.count(3), 6);
+        x.put(0, 7);
+        c.due("true place behind a word at the start", x.anchorOf(0, 1), 1);
+        x.anchor(0);
+        x.change(2, 50);
+        c.due("a change elsewhere leaves the first place", x.anchorOf(3, 1), 0);
+        c.due("and the next one", x.anchorOf(0, 1), 1);
     }
 
     private static void move(Checks c) {

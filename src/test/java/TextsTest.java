@@ -144,6 +144,7 @@ public final class TextsTest {
         c.due("the text is not restored", x.clearText(), 27);
         Checks.typeAll(x, "-0;");
         c.due("play()", x.play(), 2);
+        c.row(x, "2 3");
         c.due("play() again", x.play(), 1);
         c.due("and again", x.play(), 0);
         c.refused(x, "play() without words", () -> x.play(), Checks.IMPOSSIBLE);

@@ -12,6 +12,7 @@ public final class WhatThereIsTest {
         score(c);
         anchors(c);
         blockOf(c);
+        blocksInOrder(c);
         lostOnesAreInNoBlock(c);
         c.end();
     }
@@ -172,6 +173,27 @@ public final class WhatThereIsTest {
         c.refused(x, "blockOf(9, 9)", () -> x.blockOf(9, 9), Checks.INVALID);
         c.due("found again", x.findAll(), 5);
         c.due("no block", x.blockOf(0, 1), Checks.MISSING);
+    }
+
+    private static void blocksInOrder(Checks c) {
+        WordAnchors x = Checks.rowOf(1, 2, 3, 4, 5, 6, 7, 8, 9, 10);
+        x.anchor(1);
+        x.anchor(5);
+        x.anchor(6);
+        x.put(4, 50);
+        x.put(5, 51);
+        x.take(0);
+        c.row(x, "2 3 4 50 51 5 6 7 8 9 10");
+        c.due("one more is enough to be first", x.blockOf(0, 0), 6);
+        c.due("its shift", x.blockOf(0, 1), 101);
+        c.due("one anchor alone", x.blockOf(1, 0), 1);
+        c.due("its shift is less", x.blockOf(1, 1), 99);
+        c.due("no third one", x.blockOf(2, 1), Checks.MISSING);
+        x.take(4);
+        x.take(3);
+        c.due("all of them", x.blockOf(0, 0), 7);
+        c.due("together", x.blockOf(0, 1), 99);
+        c.due("no second one", x.blockOf(1, 0), Checks.MISSING);
     }
 
     private static void lostOnesAreInNoBlock(Checks c) {
