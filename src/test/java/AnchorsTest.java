@@ -1,7 +1,7 @@
 /** Promises 6 to 11: anchor, drop, find, findAll, remember and set. */
 public final class AnchorsTest {
-    private static final int LOW = Integer.MIN_VALUE;
-    private static final int HIGH = Integer.MAX_VALUE;
+    private static final int LOW = Checks.LOW;
+    private static final int HIGH = Checks.HIGH;
 
     public static void main(String[] args) {
         Checks c = new Checks("AnchorsTest");
@@ -16,9 +16,9 @@ public final class AnchorsTest {
     }
 
     private static void anchor(Checks c) {
-        WordAnchors x = Checks.rowOf(1, 2, 3);
-        c.refused(x, "anchor(3)", () -> x.anchor(3), Checks.INVALID);
-        c.refused(x, "anchor(-1)", () -> x.anchor(-1), Checks.INVALID);
+        Counted x = Checks.rowOf(1, 2, 3);
+        c.refused(x, "anchor(3)", y -> y.anchor(3), Checks.INVALID);
+        c.refused(x, "anchor(-1)", y -> y.anchor(-1), Checks.INVALID);
         c.due("anchor(2)", x.anchor(2), 0);
         c.due("its place", x.anchorOf(0, 0), 2);
         c.due("its true place", x.anchorOf(0, 1), 2);
@@ -30,22 +30,22 @@ public final class AnchorsTest {
         for (int k = 1; k < 6; k++) {
             c.due("anchor(0)", x.anchor(0), k);
         }
-        c.refused(x, "a seventh anchor", () -> x.anchor(0), Checks.LIMIT);
-        c.refused(x, "a seventh anchor at no place", () -> x.anchor(3), Checks.INVALID);
+        c.refused(x, "a seventh anchor", y -> y.anchor(0), Checks.LIMIT);
+        c.refused(x, "a seventh anchor at no place", y -> y.anchor(3), Checks.INVALID);
         c.due("anchors", x.count(1), 6);
         c.due("no edits", x.count(3), 3);
     }
 
     private static void drop(Checks c) {
-        WordAnchors x = Checks.rowOf(10, 11, 12, 13);
-        c.refused(x, "drop(0) without anchors", () -> x.drop(0), Checks.INVALID);
+        Counted x = Checks.rowOf(10, 11, 12, 13);
+        c.refused(x, "drop(0) without anchors", y -> y.drop(0), Checks.INVALID);
         for (int k = 0; k < 4; k++) {
             x.anchor(k);
         }
         x.take(3);
-        c.refused(x, "drop(4)", () -> x.drop(4), Checks.INVALID);
-        c.refused(x, "drop(-1)", () -> x.drop(-1), Checks.INVALID);
-        c.refused(x, "drop(LOW)", () -> x.drop(LOW), Checks.INVALID);
+        c.refused(x, "drop(4)", y -> y.drop(4), Checks.INVALID);
+        c.refused(x, "drop(-1)", y -> y.drop(-1), Checks.INVALID);
+        c.refused(x, "drop(LOW)", y -> y.drop(LOW), Checks.INVALID);
         c.due("drop(1)", x.drop(1), 3);
         c.due("the one ahead", x.anchorOf(0, 4), 10);
         c.due("the next one", x.anchorOf(1, 4), 12);
@@ -62,10 +62,10 @@ public final class AnchorsTest {
     }
 
     private static void find(Checks c) {
-        WordAnchors x = Checks.rowOf(1, 2, 3, 4, 5);
+        Counted x = Checks.rowOf(1, 2, 3, 4, 5);
         x.anchor(3);
-        c.refused(x, "find(1)", () -> x.find(1), Checks.INVALID);
-        c.refused(x, "find(-1)", () -> x.find(-1), Checks.INVALID);
+        c.refused(x, "find(1)", y -> y.find(1), Checks.INVALID);
+        c.refused(x, "find(-1)", y -> y.find(-1), Checks.INVALID);
         c.due("find(0) where it is", x.find(0), 3);
         x.take(0);
         x.take(0);
@@ -79,22 +79,22 @@ public final class AnchorsTest {
         x.change(2, 9);
         c.row(x, "8 9 9");
         c.due("the greatest score", x.anchorOf(0, 9), 1);
-        c.refused(x, "find(0) of a lost one", () -> x.find(0), Checks.IMPOSSIBLE);
+        c.refused(x, "find(0) of a lost one", y -> y.find(0), Checks.IMPOSSIBLE);
         c.due("set(3, 1)", x.set(3, 1), 5);
         c.due("a score as great as the least one will do", x.find(0), 1);
         c.due("set(3, 2)", x.set(3, 2), 1);
-        c.refused(x, "find(0) below the least score", () -> x.find(0), Checks.IMPOSSIBLE);
-        WordAnchors none = Checks.rowOf(1);
+        c.refused(x, "find(0) below the least score", y -> y.find(0), Checks.IMPOSSIBLE);
+        Counted none = Checks.rowOf(1);
         none.anchor(0);
         none.set(3, 0);
         none.take(0);
-        c.refused(none, "find(0) in an empty row", () -> none.find(0), Checks.IMPOSSIBLE);
-        c.refused(none, "find(1) in an empty row", () -> none.find(1), Checks.INVALID);
+        c.refused(none, "find(0) in an empty row", y -> y.find(0), Checks.IMPOSSIBLE);
+        c.refused(none, "find(1) in an empty row", y -> y.find(1), Checks.INVALID);
     }
 
     /** With no weights all places are alike: the nearest one wins, then the lower one. */
     private static void findTies(Checks c) {
-        WordAnchors x = Checks.rowOf(1, 2, 3, 4, 5);
+        Counted x = Checks.rowOf(1, 2, 3, 4, 5);
         x.anchor(3);
         for (int what = 0; what <= 3; what++) {
             x.set(what, 0);
@@ -122,7 +122,7 @@ public final class AnchorsTest {
     }
 
     private static void findAll(Checks c) {
-        WordAnchors x = new WordAnchors();
+        Counted x = new Counted();
         c.due("findAll() without anchors", x.findAll(), 0);
         c.due("is a change", x.count(4), 1);
         for (int k = 0; k < 8; k++) {
@@ -152,11 +152,11 @@ public final class AnchorsTest {
     }
 
     private static void remember(Checks c) {
-        WordAnchors x = Checks.rowOf(1, 2, 3, 4, 5);
+        Counted x = Checks.rowOf(1, 2, 3, 4, 5);
         x.anchor(2);
         x.anchor(4);
-        c.refused(x, "remember(2)", () -> x.remember(2), Checks.INVALID);
-        c.refused(x, "remember(-1)", () -> x.remember(-1), Checks.INVALID);
+        c.refused(x, "remember(2)", y -> y.remember(2), Checks.INVALID);
+        c.refused(x, "remember(-1)", y -> y.remember(-1), Checks.INVALID);
         c.due("remember(0) as it is", x.remember(0), 0);
         x.change(2, 3);
         c.due("no true place", x.anchorOf(0, 1), Checks.MISSING);
@@ -170,17 +170,17 @@ public final class AnchorsTest {
         c.due("two ahead", x.anchorOf(0, 2), 2);
         c.due("its word", x.anchorOf(0, 4), 4);
         c.due("two behind", x.anchorOf(0, 6), Checks.MISSING);
-        c.refused(x, "remember(1) behind the row", () -> x.remember(1), Checks.IMPOSSIBLE);
+        c.refused(x, "remember(1) behind the row", y -> y.remember(1), Checks.IMPOSSIBLE);
         c.due("find(1)", x.find(1), 3);
         c.due("remember(1)", x.remember(1), 0);
         x.take(3);
-        c.refused(x, "remember(1) just behind the row", () -> x.remember(1), Checks.IMPOSSIBLE);
+        c.refused(x, "remember(1) just behind the row", y -> y.remember(1), Checks.IMPOSSIBLE);
         x.put(3, 9);
         c.due("remember(1) with another word", x.remember(1), 1);
     }
 
     private static void set(Checks c) {
-        WordAnchors x = new WordAnchors();
+        Counted x = new Counted();
         int[] first = {6, 3, 1, 5, 2};
         int[] greatest = {20, 20, 20, 60, 60};
         for (int k = 0; k < 5; k++) {
@@ -188,13 +188,13 @@ public final class AnchorsTest {
             c.due("set(" + k + ", 0)", x.set(k, 0), first[k]);
             c.due("set(" + k + ", greatest)", x.set(k, greatest[k]), 0);
             c.due("count", x.count(20 + k), greatest[k]);
-            c.refused(x, "set(" + k + ", greatest + 1)", () -> x.set(what, greatest[what] + 1), Checks.INVALID);
-            c.refused(x, "set(" + k + ", -1)", () -> x.set(what, -1), Checks.INVALID);
-            c.refused(x, "set(" + k + ", HIGH)", () -> x.set(what, HIGH), Checks.INVALID);
+            c.refused(x, "set(" + k + ", greatest + 1)", y -> y.set(what, greatest[what] + 1), Checks.INVALID);
+            c.refused(x, "set(" + k + ", -1)", y -> y.set(what, -1), Checks.INVALID);
+            c.refused(x, "set(" + k + ", HIGH)", y -> y.set(what, HIGH), Checks.INVALID);
         }
-        c.refused(x, "set(5, 0)", () -> x.set(5, 0), Checks.INVALID);
-        c.refused(x, "set(-1, 0)", () -> x.set(-1, 0), Checks.INVALID);
-        c.refused(x, "set(LOW, LOW)", () -> x.set(LOW, LOW), Checks.INVALID);
+        c.refused(x, "set(5, 0)", y -> y.set(5, 0), Checks.INVALID);
+        c.refused(x, "set(-1, 0)", y -> y.set(-1, 0), Checks.INVALID);
+        c.refused(x, "set(LOW, LOW)", y -> y.set(LOW, LOW), Checks.INVALID);
         c.due("set to what it is", x.set(0, 20), 20);
         c.due("is a change", x.count(4), 4);
         c.due("no edits", x.count(3), 0);
@@ -202,7 +202,7 @@ public final class AnchorsTest {
     }
 
     private static void weights(Checks c) {
-        WordAnchors x = Checks.rowOf(1, 2, 3, 4, 5);
+        Counted x = Checks.rowOf(1, 2, 3, 4, 5);
         x.anchor(2);
         c.due("all five", x.score(0, 2), 14);
         x.set(0, 10);

@@ -1,7 +1,7 @@
 /** Promises 2 to 5: put, take, change and move, and how true places follow them. */
 public final class EditsTest {
-    private static final int LOW = Integer.MIN_VALUE;
-    private static final int HIGH = Integer.MAX_VALUE;
+    private static final int LOW = Checks.LOW;
+    private static final int HIGH = Checks.HIGH;
 
     public static void main(String[] args) {
         Checks c = new Checks("EditsTest");
@@ -14,26 +14,26 @@ public final class EditsTest {
     }
 
     private static void put(Checks c) {
-        WordAnchors x = new WordAnchors();
+        Counted x = new Counted();
         c.due("put(0, 0)", x.put(0, 0), 1);
         c.due("put(1, 99)", x.put(1, 99), 2);
         c.due("put(0, 7)", x.put(0, 7), 3);
         c.due("put(1, 8)", x.put(1, 8), 4);
         c.row(x, "7 8 0 99");
-        c.refused(x, "put(5, 1)", () -> x.put(5, 1), Checks.INVALID);
-        c.refused(x, "put(-1, 1)", () -> x.put(-1, 1), Checks.INVALID);
-        c.refused(x, "put(0, -1)", () -> x.put(0, -1), Checks.INVALID);
-        c.refused(x, "put(0, 100)", () -> x.put(0, 100), Checks.INVALID);
-        c.refused(x, "put(LOW, HIGH)", () -> x.put(LOW, HIGH), Checks.INVALID);
-        c.refused(x, "put(HIGH, 0)", () -> x.put(HIGH, 0), Checks.INVALID);
+        c.refused(x, "put(5, 1)", y -> y.put(5, 1), Checks.INVALID);
+        c.refused(x, "put(-1, 1)", y -> y.put(-1, 1), Checks.INVALID);
+        c.refused(x, "put(0, -1)", y -> y.put(0, -1), Checks.INVALID);
+        c.refused(x, "put(0, 100)", y -> y.put(0, 100), Checks.INVALID);
+        c.refused(x, "put(LOW, HIGH)", y -> y.put(LOW, HIGH), Checks.INVALID);
+        c.refused(x, "put(HIGH, 0)", y -> y.put(HIGH, 0), Checks.INVALID);
         truePlacesAfterPut(c);
         for (int k = 4; k < 40; k++) {
             c.due("put at the end", x.put(k, k), k + 1);
         }
-        c.refused(x, "put(0, 1) into a full row", () -> x.put(0, 1), Checks.LIMIT);
-        c.refused(x, "put(40, 1) into a full row", () -> x.put(40, 1), Checks.LIMIT);
-        c.refused(x, "put(41, 1) into a full row", () -> x.put(41, 1), Checks.INVALID);
-        c.refused(x, "put(0, 100) into a full row", () -> x.put(0, 100), Checks.INVALID);
+        c.refused(x, "put(0, 1) into a full row", y -> y.put(0, 1), Checks.LIMIT);
+        c.refused(x, "put(40, 1) into a full row", y -> y.put(40, 1), Checks.LIMIT);
+        c.refused(x, "put(41, 1) into a full row", y -> y.put(41, 1), Checks.INVALID);
+        c.refused(x, "put(0, 100) into a full row", y -> y.put(0, 100), Checks.INVALID);
         c.due("wordAt(39)", x.wordAt(39), 39);
         c.due("take(0)", x.take(0), 7);
         c.due("put(39, 5)", x.put(39, 5), 40);
@@ -41,7 +41,7 @@ public final class EditsTest {
     }
 
     private static void truePlacesAfterPut(Checks c) {
-        WordAnchors x = Checks.rowOf(1, 2, 3);
+        Counted x = Checks.rowOf(1, 2, 3);
         x.anchor(0);
         x.anchor(1);
         x.anchor(2);
@@ -55,13 +55,13 @@ public final class EditsTest {
     }
 
     private static void take(Checks c) {
-        WordAnchors x = Checks.rowOf(1, 2, 3, 4);
+        Counted x = Checks.rowOf(1, 2, 3, 4);
         x.anchor(0);
         x.anchor(2);
         x.anchor(3);
-        c.refused(x, "take(4)", () -> x.take(4), Checks.INVALID);
-        c.refused(x, "take(-1)", () -> x.take(-1), Checks.INVALID);
-        c.refused(x, "take(HIGH)", () -> x.take(HIGH), Checks.INVALID);
+        c.refused(x, "take(4)", y -> y.take(4), Checks.INVALID);
+        c.refused(x, "take(-1)", y -> y.take(-1), Checks.INVALID);
+        c.refused(x, "take(HIGH)", y -> y.take(HIGH), Checks.INVALID);
         c.due("take(2)", x.take(2), 3);
         c.row(x, "1 2 4");
         c.due("true place ahead", x.anchorOf(0, 1), 0);
@@ -74,19 +74,19 @@ public final class EditsTest {
         c.due("take(2)", x.take(2), 3);
         c.due("take(1)", x.take(1), 2);
         c.due("take(0)", x.take(0), 1);
-        c.refused(x, "take(0) from an empty row", () -> x.take(0), Checks.INVALID);
+        c.refused(x, "take(0) from an empty row", y -> y.take(0), Checks.INVALID);
         c.due("none has a true place", x.anchors(4), 7);
     }
 
     private static void change(Checks c) {
-        WordAnchors x = Checks.rowOf(1, 2, 3);
+        Counted x = Checks.rowOf(1, 2, 3);
         x.anchor(0);
         x.anchor(1);
         x.anchor(2);
-        c.refused(x, "change(3, 0)", () -> x.change(3, 0), Checks.INVALID);
-        c.refused(x, "change(-1, 0)", () -> x.change(-1, 0), Checks.INVALID);
-        c.refused(x, "change(0, 100)", () -> x.change(0, 100), Checks.INVALID);
-        c.refused(x, "change(0, -1)", () -> x.change(0, -1), Checks.INVALID);
+        c.refused(x, "change(3, 0)", y -> y.change(3, 0), Checks.INVALID);
+        c.refused(x, "change(-1, 0)", y -> y.change(-1, 0), Checks.INVALID);
+        c.refused(x, "change(0, 100)", y -> y.change(0, 100), Checks.INVALID);
+        c.refused(x, "change(0, -1)", y -> y.change(0, -1), Checks.INVALID);
         c.due("change(1, 99)", x.change(1, 99), 2);
         c.row(x, "1 99 3");
         c.due("only its anchor has no true place", x.anchors(4), 2);
@@ -105,20 +105,20 @@ public final class EditsTest {
     }
 
     private static void move(Checks c) {
-        WordAnchors x = Checks.rowOf(1, 2, 3, 4, 5, 6);
+        Counted x = Checks.rowOf(1, 2, 3, 4, 5, 6);
         x.anchor(0);
         x.anchor(2);
         x.anchor(5);
-        c.refused(x, "move(6, 1, 0)", () -> x.move(6, 1, 0), Checks.INVALID);
-        c.refused(x, "move(-1, 1, 0)", () -> x.move(-1, 1, 0), Checks.INVALID);
-        c.refused(x, "move(0, 0, 0)", () -> x.move(0, 0, 0), Checks.INVALID);
-        c.refused(x, "move(0, -1, 0)", () -> x.move(0, -1, 0), Checks.INVALID);
-        c.refused(x, "move(4, 3, 0)", () -> x.move(4, 3, 0), Checks.INVALID);
-        c.refused(x, "move(4, 2, 5)", () -> x.move(4, 2, 5), Checks.INVALID);
-        c.refused(x, "move(4, 2, -1)", () -> x.move(4, 2, -1), Checks.INVALID);
-        c.refused(x, "move(5, HIGH, 0)", () -> x.move(5, HIGH, 0), Checks.INVALID);
-        c.refused(x, "move(HIGH, HIGH, HIGH)", () -> x.move(HIGH, HIGH, HIGH), Checks.INVALID);
-        c.refused(x, "move(0, LOW, LOW)", () -> x.move(0, LOW, LOW), Checks.INVALID);
+        c.refused(x, "move(6, 1, 0)", y -> y.move(6, 1, 0), Checks.INVALID);
+        c.refused(x, "move(-1, 1, 0)", y -> y.move(-1, 1, 0), Checks.INVALID);
+        c.refused(x, "move(0, 0, 0)", y -> y.move(0, 0, 0), Checks.INVALID);
+        c.refused(x, "move(0, -1, 0)", y -> y.move(0, -1, 0), Checks.INVALID);
+        c.refused(x, "move(4, 3, 0)", y -> y.move(4, 3, 0), Checks.INVALID);
+        c.refused(x, "move(4, 2, 5)", y -> y.move(4, 2, 5), Checks.INVALID);
+        c.refused(x, "move(4, 2, -1)", y -> y.move(4, 2, -1), Checks.INVALID);
+        c.refused(x, "move(5, HIGH, 0)", y -> y.move(5, HIGH, 0), Checks.INVALID);
+        c.refused(x, "move(HIGH, HIGH, HIGH)", y -> y.move(HIGH, HIGH, HIGH), Checks.INVALID);
+        c.refused(x, "move(0, LOW, LOW)", y -> y.move(0, LOW, LOW), Checks.INVALID);
         c.due("move(4, 2, 1)", x.move(4, 2, 1), 5);
         c.row(x, "1 5 6 2 3 4");
         c.due("true place outside of the move", x.anchorOf(0, 1), 0);
@@ -131,10 +131,10 @@ public final class EditsTest {
         c.due("move(0, 6, 0)", x.move(0, 6, 0), 0);
         c.due("a move to where it is is an edit", x.count(3), 10);
         c.row(x, "1 2 3 4 5 6");
-        WordAnchors same = Checks.rowOf(7, 7, 7);
+        Counted same = Checks.rowOf(7, 7, 7);
         c.due("words count, not what they are", same.move(0, 1, 2), 3);
-        WordAnchors none = new WordAnchors();
-        c.refused(none, "move(0, 1, 0) in an empty row", () -> none.move(0, 1, 0), Checks.INVALID);
+        Counted none = new Counted();
+        c.refused(none, "move(0, 1, 0) in an empty row", y -> y.move(0, 1, 0), Checks.INVALID);
         c.due("edits of none", none.count(3), 0);
     }
 
@@ -155,7 +155,7 @@ public final class EditsTest {
         for (int k = 0; k < size; k++) {
             words.add(k);
         }
-        WordAnchors x = Checks.rowOf(0, 1, 2, 3, 4, 5, 6);
+        Counted x = Checks.rowOf(0, 1, 2, 3, 4, 5, 6);
         for (int k = 1; k < size; k++) {
             x.anchor(k);
         }

@@ -75,7 +75,7 @@ public final class FaceTest {
         c.due("fault(0)", x.fault(0), Checks.MISSING);
         c.due("fault(1)", x.fault(1), Checks.MISSING);
         c.due("undo()", x.undo(), Checks.IMPOSSIBLE);
-        WordAnchors other = Checks.rowOf(1, 2, 3);
+        Counted other = Checks.rowOf(1, 2, 3);
         other.anchor(1);
         c.due("nothing is shared", x.count(0) + x.count(1), 0);
     }

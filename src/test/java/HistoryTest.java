@@ -12,7 +12,7 @@ public final class HistoryTest {
     }
 
     private static void atMostFour(Checks c) {
-        WordAnchors x = new WordAnchors();
+        Counted x = new Counted();
         c.due("undo() of nothing", x.undo(), Checks.IMPOSSIBLE);
         for (int k = 0; k < 11; k++) {
             x.put(k, k);
@@ -24,7 +24,7 @@ public final class HistoryTest {
             c.due("words", x.count(0), 7 + left);
             c.due("edits", x.count(3), 7 + left);
         }
-        c.refused(x, "undo() of a fifth", () -> x.undo(), Checks.IMPOSSIBLE);
+        c.refused(x, "undo() of a fifth", y -> y.undo(), Checks.IMPOSSIBLE);
         x.put(0, 50);
         x.put(0, 51);
         c.due("undo()", x.undo(), 1);
@@ -37,8 +37,8 @@ public final class HistoryTest {
     }
 
     /** An object in which every kind of change can do something, with an empty history. */
-    private static WordAnchors ready() {
-        WordAnchors x = Checks.rowOf(1, 2, 3, 4, 5);
+    private static Counted ready() {
+        Counted x = Checks.rowOf(1, 2, 3, 4, 5);
         x.anchor(1);
         x.anchor(3);
         x.set(4, 1);
@@ -69,8 +69,8 @@ public final class HistoryTest {
         change(c, "play", x -> x.play(), 3);
     }
 
-    private static void change(Checks c, String name, ToIntFunction<WordAnchors> call, int edits) {
-        WordAnchors x = ready();
+    private static void change(Checks c, String name, ToIntFunction<Face> call, int edits) {
+        Counted x = ready();
         String before = Checks.view(x);
         int editsBefore = x.count(3);
         c.due(name + ": states before", x.count(4), 0);
@@ -84,7 +84,7 @@ public final class HistoryTest {
     }
 
     private static void textStays(Checks c) {
-        WordAnchors x = Checks.rowOf(1);
+        Counted x = Checks.rowOf(1);
         x.type('-');
         x.put(0, 2);
         x.type('0');
@@ -113,7 +113,7 @@ public final class HistoryTest {
 
     /** A state that is restored is not touched by what came between. */
     private static void dropped(Checks c) {
-        WordAnchors x = Checks.rowOf(1, 2, 3, 4);
+        Counted x = Checks.rowOf(1, 2, 3, 4);
         x.anchor(0);
         x.anchor(1);
         x.anchor(2);

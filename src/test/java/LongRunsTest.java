@@ -7,35 +7,33 @@ import java.util.TreeSet;
 public final class LongRunsTest {
     private static final int CALLS = 512;
     private static final int RUNS = 600;
-    private static final String[] NAMES = {"put", "take", "change", "move", "anchor", "drop", "find",
-        "findAll", "remember", "set", "wordAt", "anchorOf", "score", "anchors", "blockOf", "wouldTake",
-        "safest", "clearest", "count", "undo", "type", "clearText", "fault", "play"};
-    private static final int TYPE = 20;
-    private static final int CLEAR_TEXT = 21;
-    private static final int FAULT = 22;
-    private static final int PLAY = 23;
-    /** Which calls are made how often: all by their numbers in NAMES. */
-    private static final int[] MIX = {0, 0, 0, 0, 1, 1, 2, 2, 3, 3, 3, 4, 4, 4, 5, 6, 7, 8, 8, 9, 10, 11, 11,
-        11, 11, 11, 12, 12, 13, 13, 14, 14, 14, 15, 15, 15, 16, 16, 17, 17, 18, 18, 19, 19, TYPE, TYPE, PLAY};
+    /** Which calls are made how often. */
+    private static final Call[] MIX = {Call.PUT, Call.PUT, Call.PUT, Call.PUT, Call.TAKE, Call.TAKE,
+        Call.CHANGE, Call.CHANGE, Call.MOVE, Call.MOVE, Call.MOVE, Call.ANCHOR, Call.ANCHOR, Call.ANCHOR,
+        Call.DROP, Call.FIND, Call.FIND_ALL, Call.REMEMBER, Call.REMEMBER, Call.SET, Call.WORD_AT,
+        Call.ANCHOR_OF, Call.ANCHOR_OF, Call.ANCHOR_OF, Call.ANCHOR_OF, Call.ANCHOR_OF, Call.SCORE,
+        Call.SCORE, Call.ANCHORS, Call.ANCHORS, Call.BLOCK_OF, Call.BLOCK_OF, Call.BLOCK_OF,
+        Call.WOULD_TAKE, Call.WOULD_TAKE, Call.WOULD_TAKE, Call.SAFEST, Call.SAFEST, Call.CLEAREST,
+        Call.CLEAREST, Call.COUNT, Call.COUNT, Call.UNDO, Call.UNDO, Call.TYPE, Call.TYPE, Call.PLAY};
     private static final int[] FAR = {Integer.MIN_VALUE, Integer.MAX_VALUE, -1, 127, 40, 41, 100, 6, 13, -40};
 
     /** Every call, and every error that the document names for one: all must come up in the runs. */
     private static final String[] KINDS = {
-        "put", "put -1000001", "put -1000003", "take", "take -1000001", "change", "change -1000001",
-        "move", "move -1000001", "anchor", "anchor -1000001", "anchor -1000003", "drop", "drop -1000001",
-        "find", "find -1000001", "find -1000002", "findAll", "remember", "remember -1000001",
-        "remember -1000002", "set", "set -1000001", "wordAt", "wordAt -1000001", "wordAt -1000004",
-        "anchorOf", "anchorOf -1000001", "anchorOf -1000004", "score", "score -1000001", "anchors",
-        "anchors -1000001", "blockOf", "blockOf -1000001", "blockOf -1000004", "wouldTake",
-        "wouldTake -1000001", "safest", "safest -1000001", "safest -1000004", "clearest",
-        "clearest -1000001", "clearest -1000004", "count", "count -1000001", "undo", "undo -1000002",
-        "type", "type -1000001", "type -1000003", "clearText", "fault", "fault -1000001",
-        "fault -1000004", "play", "play -1000002"};
+        "PUT", "PUT -1000001", "PUT -1000003", "TAKE", "TAKE -1000001", "CHANGE", "CHANGE -1000001",
+        "MOVE", "MOVE -1000001", "ANCHOR", "ANCHOR -1000001", "ANCHOR -1000003", "DROP", "DROP -1000001",
+        "FIND", "FIND -1000001", "FIND -1000002", "FIND_ALL", "REMEMBER", "REMEMBER -1000001",
+        "REMEMBER -1000002", "SET", "SET -1000001", "WORD_AT", "WORD_AT -1000001", "WORD_AT -1000004",
+        "ANCHOR_OF", "ANCHOR_OF -1000001", "ANCHOR_OF -1000004", "SCORE", "SCORE -1000001", "ANCHORS",
+        "ANCHORS -1000001", "BLOCK_OF", "BLOCK_OF -1000001", "BLOCK_OF -1000004", "WOULD_TAKE",
+        "WOULD_TAKE -1000001", "SAFEST", "SAFEST -1000001", "SAFEST -1000004", "CLEAREST",
+        "CLEAREST -1000001", "CLEAREST -1000004", "COUNT", "COUNT -1000001", "UNDO", "UNDO -1000002",
+        "TYPE", "TYPE -1000001", "TYPE -1000003", "CLEAR_TEXT", "FAULT", "FAULT -1000001",
+        "FAULT -1000004", "PLAY", "PLAY -1000002"};
     private static final Set<String> SEEN = new TreeSet<>();
 
     private long seed;
     private int words;
-    private WordAnchors x;
+    private Counted x;
     private PlainModel model;
     private Checks checks;
     private List<String> calls;
@@ -63,7 +61,7 @@ public final class LongRunsTest {
     }
 
     private void run() {
-        x = new WordAnchors();
+        x = new Counted();
         model = new PlainModel();
         calls = new ArrayList<>();
         same = true;
@@ -71,7 +69,7 @@ public final class LongRunsTest {
         int least = below(3) * 12;
         while (calls.size() < CALLS && same) {
             if (model.count(0) < least && below(3) > 0) {
-                call(0, place() + below(2), below(words), 0);
+                call(Call.PUT, place() + below(2), below(words), 0);
             } else {
                 step();
             }
@@ -92,34 +90,34 @@ public final class LongRunsTest {
     }
 
     private void step() {
-        int which = MIX[below(MIX.length)];
-        if (which == TYPE) {
+        Call which = MIX[below(MIX.length)];
+        if (which == Call.TYPE) {
             typeEdit();
         } else {
             call(which, first(which), second(which), third());
         }
     }
 
-    private int first(int which) {
-        return switch (NAMES[which]) {
-            case "put" -> place() + below(2);
-            case "take", "change", "move", "anchor", "wordAt", "wouldTake" -> place();
-            case "drop", "find", "remember", "anchorOf", "score" -> mark();
-            case "anchors" -> upTo(5);
-            case "set" -> upTo(4);
-            case "blockOf" -> upTo(2);
-            case "count" -> below(3) == 0 ? 20 + upTo(4) : upTo(5);
+    private int first(Call which) {
+        return switch (which) {
+            case PUT -> place() + below(2);
+            case TAKE, CHANGE, MOVE, ANCHOR, WORD_AT, WOULD_TAKE -> place();
+            case DROP, FIND, REMEMBER, ANCHOR_OF, SCORE -> mark();
+            case ANCHORS -> upTo(5);
+            case SET -> upTo(4);
+            case BLOCK_OF -> upTo(2);
+            case COUNT -> below(3) == 0 ? 20 + upTo(4) : upTo(5);
             default -> upTo(1);
         };
     }
 
-    private int second(int which) {
-        return switch (NAMES[which]) {
-            case "put", "change" -> below(30) == 0 ? FAR[below(FAR.length)] : below(words);
-            case "move" -> 1 + upTo(Math.max(0, model.count(0) / 2));
-            case "anchorOf" -> upTo(12);
-            case "score" -> place();
-            case "set" -> below(2) == 0 ? upTo(60) : upTo(15);
+    private int second(Call which) {
+        return switch (which) {
+            case PUT, CHANGE -> below(30) == 0 ? FAR[below(FAR.length)] : below(words);
+            case MOVE -> 1 + upTo(Math.max(0, model.count(0) / 2));
+            case ANCHOR_OF -> upTo(12);
+            case SCORE -> place();
+            case SET -> below(2) == 0 ? upTo(60) : upTo(15);
             default -> upTo(1);
         };
     }
@@ -131,7 +129,7 @@ public final class LongRunsTest {
     /** An edit as a text, mostly of the form and possible, character by character. */
     private void typeEdit() {
         if (below(4) == 0) {
-            call(CLEAR_TEXT, 0, 0, 0);
+            call(Call.CLEAR_TEXT, 0, 0, 0);
         }
         int size = model.count(0);
         int from = below(Math.max(1, size));
@@ -149,83 +147,25 @@ public final class LongRunsTest {
             edit.setCharAt(below(edit.length()), (char) (32 + below(95)));
         }
         for (int k = 0; k < edit.length(); k++) {
-            call(TYPE, below(200) == 0 ? FAR[below(4)] : edit.charAt(k), 0, 0);
+            call(Call.TYPE, below(200) == 0 ? FAR[below(4)] : edit.charAt(k), 0, 0);
         }
-        call(FAULT, upTo(1), 0, 0);
-        call(PLAY, 0, 0, 0);
+        call(Call.FAULT, upTo(1), 0, 0);
+        call(Call.PLAY, 0, 0, 0);
     }
 
-    private void call(int which, int a, int b, int c) {
+    private void call(Call which, int a, int b, int c) {
         if (calls.size() >= CALLS || !same) {
             return;
         }
-        String call = NAMES[which] + "(" + a + ", " + b + ", " + c + ")";
+        String call = which.told(a, b, c);
         calls.add(call);
-        int got = answer(which, a, b, c);
-        int want = due(which, a, b, c);
-        SEEN.add(NAMES[which] + (want >= 0 ? "" : " " + want));
+        int got = which.on(x, a, b, c);
+        int want = which.on(model, a, b, c);
+        SEEN.add(which + (want >= 0 ? "" : " " + want));
         checks.due(call, got, want);
         if (got != want) {
             same = false;
             System.out.println("after these calls: " + calls);
         }
-    }
-
-    private int answer(int which, int a, int b, int c) {
-        return switch (which) {
-            case 0 -> x.put(a, b);
-            case 1 -> x.take(a);
-            case 2 -> x.change(a, b);
-            case 3 -> x.move(a, b, c);
-            case 4 -> x.anchor(a);
-            case 5 -> x.drop(a);
-            case 6 -> x.find(a);
-            case 7 -> x.findAll();
-            case 8 -> x.remember(a);
-            case 9 -> x.set(a, b);
-            case 10 -> x.wordAt(a);
-            case 11 -> x.anchorOf(a, b);
-            case 12 -> x.score(a, b);
-            case 13 -> x.anchors(a);
-            case 14 -> x.blockOf(a, b);
-            case 15 -> x.wouldTake(a, b);
-            case 16 -> x.safest(a);
-            case 17 -> x.clearest(a);
-            case 18 -> x.count(a);
-            case 19 -> x.undo();
-            case 20 -> x.type(a);
-            case 21 -> x.clearText();
-            case 22 -> x.fault(a);
-            default -> x.play();
-        };
-    }
-
-    private int due(int which, int a, int b, int c) {
-        return switch (which) {
-            case 0 -> model.put(a, b);
-            case 1 -> model.take(a);
-            case 2 -> model.change(a, b);
-            case 3 -> model.move(a, b, c);
-            case 4 -> model.anchor(a);
-            case 5 -> model.drop(a);
-            case 6 -> model.find(a);
-            case 7 -> model.findAll();
-            case 8 -> model.remember(a);
-            case 9 -> model.set(a, b);
-            case 10 -> model.wordAt(a);
-            case 11 -> model.anchorOf(a, b);
-            case 12 -> model.score(a, b);
-            case 13 -> model.anchors(a);
-            case 14 -> model.blockOf(a, b);
-            case 15 -> model.wouldTake(a, b);
-            case 16 -> model.safest(a);
-            case 17 -> model.clearest(a);
-            case 18 -> model.count(a);
-            case 19 -> model.undo();
-            case 20 -> model.type(a);
-            case 21 -> model.clearText();
-            case 22 -> model.fault(a);
-            default -> model.play();
-        };
     }
 }

@@ -10,7 +10,7 @@ import java.util.regex.Pattern;
  * The document's words once more, written another way than the class: words are objects, so that
  * a true place is wherever its word's object is, and forms of texts are patterns.
  */
-final class PlainModel {
+final class PlainModel implements Face {
     private static final int INVALID = -1000001;
     private static final int IMPOSSIBLE = -1000002;
     private static final int LIMIT = -1000003;
@@ -168,7 +168,8 @@ final class PlainModel {
         return value < least || value > greatest;
     }
 
-    int put(int place, int word) {
+    @Override
+    public int put(int place, int word) {
         if (outside(place, 0, now.row.size()) || outside(word, 0, 99)) {
             return INVALID;
         }
@@ -181,7 +182,8 @@ final class PlainModel {
         return now.row.size();
     }
 
-    int take(int place) {
+    @Override
+    public int take(int place) {
         if (noPlace(place)) {
             return INVALID;
         }
@@ -190,7 +192,8 @@ final class PlainModel {
         return now.row.remove(place).value;
     }
 
-    int change(int place, int word) {
+    @Override
+    public int change(int place, int word) {
         if (noPlace(place) || outside(word, 0, 99)) {
             return INVALID;
         }
@@ -199,7 +202,8 @@ final class PlainModel {
         return now.row.set(place, new Word(word)).value;
     }
 
-    int move(int from, int many, int to) {
+    @Override
+    public int move(int from, int many, int to) {
         if (noPlace(from) || many < 1 || (long) from + many > now.row.size()
                 || outside(to, 0, now.row.size() - many)) {
             return INVALID;
@@ -208,7 +212,8 @@ final class PlainModel {
         return now.move(from, many, to);
     }
 
-    int anchor(int place) {
+    @Override
+    public int anchor(int place) {
         if (noPlace(place)) {
             return INVALID;
         }
@@ -224,7 +229,8 @@ final class PlainModel {
         return now.marks.size() - 1;
     }
 
-    int drop(int anchor) {
+    @Override
+    public int drop(int anchor) {
         if (noMark(anchor)) {
             return INVALID;
         }
@@ -233,7 +239,8 @@ final class PlainModel {
         return now.marks.size();
     }
 
-    int find(int anchor) {
+    @Override
+    public int find(int anchor) {
         if (noMark(anchor)) {
             return INVALID;
         }
@@ -246,7 +253,8 @@ final class PlainModel {
         return mark.place;
     }
 
-    int findAll() {
+    @Override
+    public int findAll() {
         record();
         int elsewhere = 0;
         for (Mark mark : now.marks) {
@@ -259,7 +267,8 @@ final class PlainModel {
         return elsewhere;
     }
 
-    int remember(int anchor) {
+    @Override
+    public int remember(int anchor) {
         if (noMark(anchor)) {
             return INVALID;
         }
@@ -278,7 +287,8 @@ final class PlainModel {
         return others;
     }
 
-    int set(int what, int value) {
+    @Override
+    public int set(int what, int value) {
         if (outside(what, 0, 4) || outside(value, 0, what < 3 ? 20 : 60)) {
             return INVALID;
         }
@@ -288,14 +298,16 @@ final class PlainModel {
         return before;
     }
 
-    int wordAt(int place) {
+    @Override
+    public int wordAt(int place) {
         if (place < 0) {
             return INVALID;
         }
         return noPlace(place) ? MISSING : now.row.get(place).value;
     }
 
-    int anchorOf(int anchor, int what) {
+    @Override
+    public int anchorOf(int anchor, int what) {
         if (noMark(anchor) || outside(what, 0, 12)) {
             return INVALID;
         }
@@ -324,15 +336,18 @@ final class PlainModel {
         return what % 2 == 0 ? places.get(rank) : now.score(mark.around, places.get(rank));
     }
 
-    int score(int anchor, int place) {
+    @Override
+    public int score(int anchor, int place) {
         return noMark(anchor) || noPlace(place) ? INVALID : now.score(now.marks.get(anchor).around, place);
     }
 
-    int anchors(int what) {
+    @Override
+    public int anchors(int what) {
         return outside(what, 0, 5) ? INVALID : now.marksOf(what);
     }
 
-    int blockOf(int index, int what) {
+    @Override
+    public int blockOf(int index, int what) {
         if (index < 0 || outside(what, 0, 1)) {
             return INVALID;
         }
@@ -364,11 +379,13 @@ final class PlainModel {
         return state;
     }
 
-    int wouldTake(int place, int what) {
+    @Override
+    public int wouldTake(int place, int what) {
         return noPlace(place) || outside(what, 0, 1) ? INVALID : without(place).marksOf(2 + what);
     }
 
-    int safest(int what) {
+    @Override
+    public int safest(int what) {
         if (outside(what, 0, 1)) {
             return INVALID;
         }
@@ -381,7 +398,8 @@ final class PlainModel {
         return lost.length == 0 ? MISSING : what == 0 ? best : lost[best];
     }
 
-    int clearest(int what) {
+    @Override
+    public int clearest(int what) {
         if (outside(what, 0, 1)) {
             return INVALID;
         }
@@ -401,7 +419,8 @@ final class PlainModel {
         return best < 0 ? MISSING : what == 0 ? best : greatest;
     }
 
-    int count(int what) {
+    @Override
+    public int count(int what) {
         return switch (what) {
             case 0 -> now.row.size();
             case 1 -> now.marks.size();
@@ -414,7 +433,8 @@ final class PlainModel {
         };
     }
 
-    int undo() {
+    @Override
+    public int undo() {
         if (history.isEmpty()) {
             return IMPOSSIBLE;
         }
@@ -422,7 +442,8 @@ final class PlainModel {
         return history.size();
     }
 
-    int type(int character) {
+    @Override
+    public int type(int character) {
         if (outside(character, 32, 126)) {
             return INVALID;
         }
@@ -433,7 +454,8 @@ final class PlainModel {
         return text.length();
     }
 
-    int clearText() {
+    @Override
+    public int clearText() {
         int before = text.length();
         text = "";
         return before;
@@ -495,7 +517,8 @@ final class PlainModel {
         return 0;
     }
 
-    int fault(int what) {
+    @Override
+    public int fault(int what) {
         if (outside(what, 0, 1)) {
             return INVALID;
         }
@@ -503,7 +526,8 @@ final class PlainModel {
         return fault == null ? MISSING : fault[what];
     }
 
-    int play() {
+    @Override
+    public int play() {
         if (run(now.copy()) != null) {
             return IMPOSSIBLE;
         }

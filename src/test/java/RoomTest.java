@@ -1,9 +1,10 @@
 import java.lang.management.ManagementFactory;
 
-/** No call makes an object: 512 of each kind, on a full row, leave the room as it was. */
+/** No call makes an object: 200 of each kind, on a full row, leave the room as it was. */
 public final class RoomTest {
-    private static final int CALLS = 512;
-    /** What the measuring itself may take; one object a call would be ten times as much. */
+    /** Some of them are two calls: with those that make it ready an object has no more than 512. */
+    private static final int CALLS = 200;
+    /** What the measuring itself may take; one object a call would be four times as much. */
     private static final long SLACK = 800;
 
     private static long sum;
@@ -18,7 +19,7 @@ public final class RoomTest {
         }
         for (int which = 0; which < 24; which++) {
             WordAnchors x = fullOne();
-            calls(x, which);
+            calls(fullOne(), which);
             long before = threads.getCurrentThreadAllocatedBytes();
             calls(x, which);
             long made = threads.getCurrentThreadAllocatedBytes() - before;
@@ -37,7 +38,10 @@ public final class RoomTest {
             x.anchor(6 * k);
         }
         x.set(3, 40);
-        Checks.typeAll(x, "+0,1;-0;=5,5;>0,9,9;+38,0;-38;+0,1;-0;=5,5;>0,9,9;>1,30,1;");
+        String text = "+0,1;-0;=5,5;>0,9,9;+38,0;-38;+0,1;-0;=5,5;>0,9,9;>1,30,1;";
+        for (int k = 0; k < text.length(); k++) {
+            x.type(text.charAt(k));
+        }
         return x;
     }
 

@@ -1,7 +1,7 @@
 /** Promises 22 to 25: type, clearText, fault and play. */
 public final class TextsTest {
-    private static final int LOW = Integer.MIN_VALUE;
-    private static final int HIGH = Integer.MAX_VALUE;
+    private static final int LOW = Checks.LOW;
+    private static final int HIGH = Checks.HIGH;
 
     public static void main(String[] args) {
         Checks c = new Checks("TextsTest");
@@ -15,23 +15,23 @@ public final class TextsTest {
     }
 
     private static void type(Checks c) {
-        WordAnchors x = new WordAnchors();
+        Counted x = new Counted();
         c.due("type(32)", x.type(32), 1);
         c.due("type(126)", x.type(126), 2);
         int[] wrong = {31, 127, -1, 0, 256 + 48, 65536 + 48, LOW, HIGH};
         for (int character : wrong) {
-            c.refused(x, "type(" + character + ")", () -> x.type(character), Checks.INVALID);
+            c.refused(x, "type(" + character + ")", y -> y.type(character), Checks.INVALID);
         }
         for (int k = 3; k <= 60; k++) {
             c.due("type(59)", x.type(59), k);
         }
-        c.refused(x, "type(59) into a full text", () -> x.type(59), Checks.LIMIT);
-        c.refused(x, "type(31) into a full text", () -> x.type(31), Checks.INVALID);
+        c.refused(x, "type(59) into a full text", y -> y.type(59), Checks.LIMIT);
+        c.refused(x, "type(31) into a full text", y -> y.type(31), Checks.INVALID);
         c.due("no change", x.count(4), 0);
     }
 
     private static void clearText(Checks c) {
-        WordAnchors x = Checks.rowOf(1);
+        Counted x = Checks.rowOf(1);
         c.due("clearText()", x.clearText(), 0);
         Checks.typeAll(x, "-9;");
         c.due("fault(0)", x.fault(0), 0);
@@ -45,17 +45,17 @@ public final class TextsTest {
 
     /** A fault of a text, typed into an object with the row 1 2 3. */
     private static void due(Checks c, String text, int position, int reason) {
-        WordAnchors x = Checks.rowOf(1, 2, 3);
+        Counted x = Checks.rowOf(1, 2, 3);
         Checks.typeAll(x, text);
         c.due("[" + text + "] fault(0)", x.fault(0), position);
         c.due("[" + text + "] fault(1)", x.fault(1), reason);
-        c.refused(x, "[" + text + "] fault(2)", () -> x.fault(2), Checks.INVALID);
-        c.refused(x, "[" + text + "] fault(-1)", () -> x.fault(-1), Checks.INVALID);
+        c.refused(x, "[" + text + "] fault(2)", y -> y.fault(2), Checks.INVALID);
+        c.refused(x, "[" + text + "] fault(-1)", y -> y.fault(-1), Checks.INVALID);
         if (position == Checks.MISSING) {
             c.holds("[" + text + "] play()", x.play() >= 0);
             c.due("[" + text + "] is one change more", x.count(4), 4);
         } else {
-            c.refused(x, "[" + text + "] play()", () -> x.play(), Checks.IMPOSSIBLE);
+            c.refused(x, "[" + text + "] play()", y -> y.play(), Checks.IMPOSSIBLE);
         }
     }
 
@@ -97,7 +97,7 @@ public final class TextsTest {
     }
 
     private static void full(Checks c) {
-        WordAnchors x = new WordAnchors();
+        Counted x = new Counted();
         for (int k = 0; k < 39; k++) {
             x.put(k, k);
         }
@@ -106,7 +106,7 @@ public final class TextsTest {
         Checks.typeAll(x, "+0,1;");
         c.due("too full", x.fault(0), 15);
         c.due("reason", x.fault(1), 3);
-        c.refused(x, "play() of too many", () -> x.play(), Checks.IMPOSSIBLE);
+        c.refused(x, "play() of too many", y -> y.play(), Checks.IMPOSSIBLE);
         x.clearText();
         Checks.typeAll(x, "+0,5;+40,1;");
         c.due("at the end of a full row", x.fault(1), 3);
@@ -125,7 +125,7 @@ public final class TextsTest {
     }
 
     private static void play(Checks c) {
-        WordAnchors x = Checks.rowOf(1, 2, 3);
+        Counted x = Checks.rowOf(1, 2, 3);
         x.anchor(0);
         x.anchor(1);
         x.anchor(2);
@@ -147,7 +147,7 @@ public final class TextsTest {
         c.row(x, "2 3");
         c.due("play() again", x.play(), 1);
         c.due("and again", x.play(), 0);
-        c.refused(x, "play() without words", () -> x.play(), Checks.IMPOSSIBLE);
+        c.refused(x, "play() without words", y -> y.play(), Checks.IMPOSSIBLE);
         c.due("fault(1)", x.fault(1), 2);
     }
 }

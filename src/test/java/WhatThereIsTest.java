@@ -1,7 +1,7 @@
 /** Promises 12 to 16: wordAt, anchorOf, score, anchors and blockOf. */
 public final class WhatThereIsTest {
-    private static final int LOW = Integer.MIN_VALUE;
-    private static final int HIGH = Integer.MAX_VALUE;
+    private static final int LOW = Checks.LOW;
+    private static final int HIGH = Checks.HIGH;
 
     public static void main(String[] args) {
         Checks c = new Checks("WhatThereIsTest");
@@ -18,20 +18,20 @@ public final class WhatThereIsTest {
     }
 
     private static void wordAt(Checks c) {
-        WordAnchors x = Checks.rowOf(0, 99);
+        Counted x = Checks.rowOf(0, 99);
         c.due("wordAt(0)", x.wordAt(0), 0);
         c.due("wordAt(1)", x.wordAt(1), 99);
-        c.refused(x, "wordAt(2)", () -> x.wordAt(2), Checks.MISSING);
-        c.refused(x, "wordAt(40)", () -> x.wordAt(40), Checks.MISSING);
-        c.refused(x, "wordAt(HIGH)", () -> x.wordAt(HIGH), Checks.MISSING);
-        c.refused(x, "wordAt(-1)", () -> x.wordAt(-1), Checks.INVALID);
-        c.refused(x, "wordAt(LOW)", () -> x.wordAt(LOW), Checks.INVALID);
+        c.refused(x, "wordAt(2)", y -> y.wordAt(2), Checks.MISSING);
+        c.refused(x, "wordAt(40)", y -> y.wordAt(40), Checks.MISSING);
+        c.refused(x, "wordAt(HIGH)", y -> y.wordAt(HIGH), Checks.MISSING);
+        c.refused(x, "wordAt(-1)", y -> y.wordAt(-1), Checks.INVALID);
+        c.refused(x, "wordAt(LOW)", y -> y.wordAt(LOW), Checks.INVALID);
         x.take(0);
         c.due("wordAt(1) of a word that moved", x.wordAt(1), Checks.MISSING);
     }
 
     private static void anchorOf(Checks c) {
-        WordAnchors x = Checks.rowOf(1, 2, 3, 4, 5, 6);
+        Counted x = Checks.rowOf(1, 2, 3, 4, 5, 6);
         x.anchor(3);
         int[] due = {3, 3, 2, 3, 4, 5, 6, 0, 3, 14, 2, 0, 1};
         for (int what = 0; what < due.length; what++) {
@@ -43,11 +43,11 @@ public final class WhatThereIsTest {
         for (int what = 0; what < moved.length; what++) {
             c.due("moved: anchorOf(0, " + what + ")", x.anchorOf(0, what), moved[what]);
         }
-        c.refused(x, "anchorOf(0, 13)", () -> x.anchorOf(0, 13), Checks.INVALID);
-        c.refused(x, "anchorOf(0, -1)", () -> x.anchorOf(0, -1), Checks.INVALID);
-        c.refused(x, "anchorOf(1, 0)", () -> x.anchorOf(1, 0), Checks.INVALID);
-        c.refused(x, "anchorOf(-1, 0)", () -> x.anchorOf(-1, 0), Checks.INVALID);
-        c.refused(x, "anchorOf(HIGH, LOW)", () -> x.anchorOf(HIGH, LOW), Checks.INVALID);
+        c.refused(x, "anchorOf(0, 13)", y -> y.anchorOf(0, 13), Checks.INVALID);
+        c.refused(x, "anchorOf(0, -1)", y -> y.anchorOf(0, -1), Checks.INVALID);
+        c.refused(x, "anchorOf(1, 0)", y -> y.anchorOf(1, 0), Checks.INVALID);
+        c.refused(x, "anchorOf(-1, 0)", y -> y.anchorOf(-1, 0), Checks.INVALID);
+        c.refused(x, "anchorOf(HIGH, LOW)", y -> y.anchorOf(HIGH, LOW), Checks.INVALID);
         x.change(1, 4);
         c.due("its true place is gone", x.anchorOf(0, 1), Checks.MISSING);
         c.due("its best place is not its true place", x.anchorOf(0, 12), 0);
@@ -56,7 +56,7 @@ public final class WhatThereIsTest {
 
     /** Sure, doubtful and lost, at the very edges of the settings. */
     private static void standing(Checks c) {
-        WordAnchors x = Checks.rowOf(1, 2, 3, 1, 2, 4);
+        Counted x = Checks.rowOf(1, 2, 3, 1, 2, 4);
         x.anchor(1);
         c.due("best score", x.anchorOf(0, 9), 14);
         c.due("next best place", x.anchorOf(0, 10), 4);
@@ -77,7 +77,7 @@ public final class WhatThereIsTest {
     }
 
     private static void emptyRow(Checks c) {
-        WordAnchors x = Checks.rowOf(1, 2);
+        Counted x = Checks.rowOf(1, 2);
         x.anchor(0);
         x.set(3, 0);
         x.set(4, 60);
@@ -100,7 +100,7 @@ public final class WhatThereIsTest {
     }
 
     private static void score(Checks c) {
-        WordAnchors x = Checks.rowOf(7, 8, 7, 7);
+        Counted x = Checks.rowOf(7, 8, 7, 7);
         x.anchor(0);
         x.set(0, 16);
         x.set(1, 4);
@@ -113,15 +113,15 @@ public final class WhatThereIsTest {
         c.due("no words behind the last one", x.score(1, 3), 26);
         c.due("a word where none is remembered", x.score(1, 2), 17);
         c.due("likewise at the first place", x.score(1, 0), 16);
-        c.refused(x, "score(0, 4)", () -> x.score(0, 4), Checks.INVALID);
-        c.refused(x, "score(0, -1)", () -> x.score(0, -1), Checks.INVALID);
-        c.refused(x, "score(2, 0)", () -> x.score(2, 0), Checks.INVALID);
-        c.refused(x, "score(-1, 0)", () -> x.score(-1, 0), Checks.INVALID);
-        c.refused(x, "score(LOW, HIGH)", () -> x.score(LOW, HIGH), Checks.INVALID);
+        c.refused(x, "score(0, 4)", y -> y.score(0, 4), Checks.INVALID);
+        c.refused(x, "score(0, -1)", y -> y.score(0, -1), Checks.INVALID);
+        c.refused(x, "score(2, 0)", y -> y.score(2, 0), Checks.INVALID);
+        c.refused(x, "score(-1, 0)", y -> y.score(-1, 0), Checks.INVALID);
+        c.refused(x, "score(LOW, HIGH)", y -> y.score(LOW, HIGH), Checks.INVALID);
     }
 
     private static void anchors(Checks c) {
-        WordAnchors x = Checks.rowOf(1, 2, 3, 3, 3, 3, 3, 9);
+        Counted x = Checks.rowOf(1, 2, 3, 3, 3, 3, 3, 9);
         x.anchor(0);
         x.anchor(5);
         x.anchor(7);
@@ -141,13 +141,13 @@ public final class WhatThereIsTest {
         for (int what = 0; what < last.length; what++) {
             c.due("all lost: anchors(" + what + ")", x.anchors(what), last[what]);
         }
-        c.refused(x, "anchors(6)", () -> x.anchors(6), Checks.INVALID);
-        c.refused(x, "anchors(-1)", () -> x.anchors(-1), Checks.INVALID);
-        c.refused(x, "anchors(HIGH)", () -> x.anchors(HIGH), Checks.INVALID);
+        c.refused(x, "anchors(6)", y -> y.anchors(6), Checks.INVALID);
+        c.refused(x, "anchors(-1)", y -> y.anchors(-1), Checks.INVALID);
+        c.refused(x, "anchors(HIGH)", y -> y.anchors(HIGH), Checks.INVALID);
     }
 
     private static void blockOf(Checks c) {
-        WordAnchors x = new WordAnchors();
+        Counted x = new Counted();
         for (int k = 0; k < 18; k++) {
             x.put(k, 20 + k);
         }
@@ -165,18 +165,18 @@ public final class WhatThereIsTest {
             c.due("blockOf(" + k + ", 0)", x.blockOf(k, 0), sets[k]);
             c.due("blockOf(" + k + ", 1)", x.blockOf(k, 1), shifts[k]);
         }
-        c.refused(x, "blockOf(3, 0)", () -> x.blockOf(3, 0), Checks.MISSING);
-        c.refused(x, "blockOf(HIGH, 1)", () -> x.blockOf(HIGH, 1), Checks.MISSING);
-        c.refused(x, "blockOf(0, 2)", () -> x.blockOf(0, 2), Checks.INVALID);
-        c.refused(x, "blockOf(0, -1)", () -> x.blockOf(0, -1), Checks.INVALID);
-        c.refused(x, "blockOf(-1, 0)", () -> x.blockOf(-1, 0), Checks.INVALID);
-        c.refused(x, "blockOf(9, 9)", () -> x.blockOf(9, 9), Checks.INVALID);
+        c.refused(x, "blockOf(3, 0)", y -> y.blockOf(3, 0), Checks.MISSING);
+        c.refused(x, "blockOf(HIGH, 1)", y -> y.blockOf(HIGH, 1), Checks.MISSING);
+        c.refused(x, "blockOf(0, 2)", y -> y.blockOf(0, 2), Checks.INVALID);
+        c.refused(x, "blockOf(0, -1)", y -> y.blockOf(0, -1), Checks.INVALID);
+        c.refused(x, "blockOf(-1, 0)", y -> y.blockOf(-1, 0), Checks.INVALID);
+        c.refused(x, "blockOf(9, 9)", y -> y.blockOf(9, 9), Checks.INVALID);
         c.due("found again", x.findAll(), 5);
         c.due("no block", x.blockOf(0, 1), Checks.MISSING);
     }
 
     private static void blocksInOrder(Checks c) {
-        WordAnchors x = Checks.rowOf(1, 2, 3, 4, 5, 6, 7, 8, 9, 10);
+        Counted x = Checks.rowOf(1, 2, 3, 4, 5, 6, 7, 8, 9, 10);
         x.anchor(1);
         x.anchor(5);
         x.anchor(6);
@@ -197,7 +197,7 @@ public final class WhatThereIsTest {
     }
 
     private static void lostOnesAreInNoBlock(Checks c) {
-        WordAnchors x = Checks.rowOf(1, 2, 3, 4, 5, 6);
+        Counted x = Checks.rowOf(1, 2, 3, 4, 5, 6);
         x.anchor(1);
         x.anchor(2);
         x.put(0, 9);
