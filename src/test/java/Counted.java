@@ -14,6 +14,10 @@ final class Counted implements Face {
     private final WordAnchors x = new WordAnchors();
     private final List<Made> log = new ArrayList<>();
 
+    int calls() {
+        return log.size();
+    }
+
     /** A new object, after those of these calls that may change one. */
     Counted afterChanges() {
         return replayed(false);
