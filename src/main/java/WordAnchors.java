@@ -428,7 +428,7 @@ public final class WordAnchors {
                 targets[p] = p < place ? p : p + 1;
             }
             relocate(size + 1);
-            words[place] = word;
+            write(place, word);
         }
 
         void remove(int place) {
@@ -436,9 +436,9 @@ public final class WordAnchors {
                 return;
             }
             for (int p = 0; p < targets.length; p++) {
-                targets[p] = p < place ? p : p - 1;
+                int behind = p == place ? NONE : p - 1;
+                targets[p] = p < place ? p : behind;
             }
-            targets[place] = NONE;
             relocate(size - 1);
         }
 
@@ -447,10 +447,9 @@ public final class WordAnchors {
                 return;
             }
             for (int p = 0; p < targets.length; p++) {
-                targets[p] = p;
+                targets[p] = p == place ? NONE : p;
             }
-            targets[place] = NONE;
-            words[place] = word;
+            write(place, word);
         }
 
         void shift(int from, int many, int to) {
@@ -478,10 +477,16 @@ public final class WordAnchors {
                     relocated[target] = words[p];
                 }
             }
-            for (int p = 0; p < newSize && p < words.length; p++) {
-                words[p] = relocated[p];
+            for (int p = 0; p < newSize && p < relocated.length; p++) {
+                write(p, relocated[p]);
             }
             size = newSize;
+        }
+
+        private void write(int place, int word) {
+            if (place >= 0 && place < words.length) {
+                words[place] = word;
+            }
         }
 
         /** Where the last edit brought the word that was at a place; NONE if it is there no more. */
@@ -721,7 +726,7 @@ public final class WordAnchors {
         }
 
         int standingOf(Anchor anchor) {
-            int best = bestPlace(anchor);
+            int best = bestPlaceBut(anchor, NONE);
             if (isLost(anchor, best)) {
                 return LOST;
             }
@@ -897,7 +902,7 @@ public final class WordAnchors {
             while (block < size && shiftOf(block) != shift) {
                 block++;
             }
-            if (block >= shifts.length) {
+            if (block >= shifts.length || block >= members.length) {
                 return;
             }
             if (block == size) {
